@@ -5,16 +5,27 @@ public final class CompilingTest {
     public static void main(String[] args) {
         compileKeepsTheBound();
         compileAboveTheBoundKeepsWhatStood();
+        compileAboveTheBoundIsNoCompiling();
+        compileOfTheGreatestWorstPath();
         compileRefuses();
         changesAreSeen();
+        eachKindOfChangeTakenBackCounts();
+        changesThatNoCallCanTellCount();
         settingWhatIsSetIsNoChange();
+        whatIsNoChange();
         evenTree();
         treesOfWeight();
+        treesOfWeightBelow();
         pathsOfTests();
+        pathsOfGreaterNumbers();
+        testsOfAnEmptyTree();
         rulesOutOfReachHaveNoTest();
         costs();
+        costsOfTheGreatestWeights();
         worstOfHalves();
+        worstAtTheEdgeOfTheHalves();
         worstEndsAtMaskZero();
+        worstIsNotOfTheDeepestNumber();
         worstOfNumbersOnly();
         askingRefuses();
         Due.end();
@@ -57,7 +68,49 @@ public final class CompilingTest {
         Due.same("test after compiling", x.test(0, 1), 1);
     }
 
+    private static void compileAboveTheBoundIsNoCompiling() {
+        SyscallFilter x = withNumbers(1, 2, 3);
+        x.compile(1000);
+        x.setDefault(0, 5);
+        Due.same("compile above the bound", x.compile(1), -1);
+        Due.no("isCompiled above the bound", x.isCompiled());
+        x.setDefault(0, 0);
+        Due.no("isCompiled, the change is taken back", x.isCompiled());
+        Due.illegalState("worst, the change is taken back", () -> x.worst(0));
+        Due.illegalState("judge, the change is taken back", () -> x.judge(1, 0L, 0L));
+        Due.illegalState("path, the change is taken back", () -> x.path(1, 0L, 0L));
+        Due.same("compile at the bound", x.compile(2), 2);
+        Due.same("compile one below, nothing changed", x.compile(1), -1);
+        Due.yes("isCompiled still", x.isCompiled());
+        Due.same("worst still", x.worst(0), 2);
+        Due.same("cost still", x.cost(0), 5);
+        Due.same("path still", x.path(3, 0L, 0L), 2);
+    }
+
+    private static void compileOfTheGreatestWorstPath() {
+        SyscallFilter x = new SyscallFilter();
+        for (int filter = 0; filter < 4; filter++) {
+            for (int rule = 0; rule < 10; rule++) {
+                x.add(filter, 31, rule % 2, -1L, (long) rule << 32, 1);
+            }
+        }
+        Due.same("compile one below", x.compile(83), -1);
+        Due.no("isCompiled one below", x.isCompiled());
+        Due.same("compile at the worst path", x.compile(84), 84);
+        for (int filter = 0; filter < 4; filter++) {
+            Due.same("worst of ten rules", x.worst(filter), 21);
+        }
+        Due.same("a path as long as that", x.path(31, 0x1000000000L, 0x1000000000L), 84);
+        Due.same("no lower half matches", x.path(31, 1L, 1L), 44);
+    }
+
     private static void compileRefuses() {
+        SyscallFilter stood = withNumbers(1, 2, 3);
+        stood.compile(1000);
+        Due.illegalArgument("compile(-1), compiled before", () -> stood.compile(-1));
+        Due.illegalArgument("compile(1001), compiled before", () -> stood.compile(1001));
+        Due.yes("isCompiled after a refused bound", stood.isCompiled());
+        Due.same("test after a refused bound", stood.test(0, 1), 2);
         SyscallFilter x = new SyscallFilter();
         for (int bound : new int[] {-1, 1001, Integer.MIN_VALUE, Integer.MAX_VALUE}) {
             Due.illegalArgument("compile(" + bound + ")", () -> x.compile(bound));
@@ -87,6 +140,60 @@ public final class CompilingTest {
         Due.no("isCompiled after setFrequency is taken back", x.isCompiled());
         x.compile(1000);
         Due.yes("isCompiled after compile", x.isCompiled());
+    }
+
+    private static void eachKindOfChangeTakenBackCounts() {
+        SyscallFilter x = withNumbers(1);
+        x.compile(1000);
+        x.remove(0, 0);
+        x.add(0, 1, 0, 0L, 0L, 1);
+        Due.no("isCompiled after remove is taken back", x.isCompiled());
+        x.compile(1000);
+        x.add(0, 1, 0, 0L, 0L, 1);
+        x.remove(0, 0);
+        Due.no("isCompiled after the like was removed", x.isCompiled());
+        Due.illegalState("cost after the like was removed", () -> x.cost(0));
+        Due.same("compile anew", x.compile(1000), 1);
+        Due.yes("isCompiled anew", x.isCompiled());
+    }
+
+    private static void changesThatNoCallCanTellCount() {
+        SyscallFilter x = withNumbers(1);
+        x.compile(1000);
+        x.add(0, 1, 0, 3L, 1L, 1);
+        Due.no("isCompiled after a rule out of reach", x.isCompiled());
+        x.compile(1000);
+        x.remove(0, 1);
+        Due.no("isCompiled after it was removed", x.isCompiled());
+        x.compile(1000);
+        x.setFrequency(31, 1000);
+        Due.no("isCompiled after the frequency of no number of a tree", x.isCompiled());
+        x.compile(1000);
+        x.setDefault(3, 1);
+        Due.no("isCompiled after a default that is less strict", x.isCompiled());
+    }
+
+    /** Neither asking nor what is refused nor compiling again is a change. */
+    private static void whatIsNoChange() {
+        SyscallFilter x = withNumbers(1);
+        x.compile(1000);
+        x.rules(0);
+        x.hider(0, 0);
+        x.test(0, 1);
+        x.cost(0);
+        x.worst(0);
+        x.judge(1, 0L, 0L);
+        x.judgeByRules(1, 0L, 0L);
+        x.path(1, 0L, 0L);
+        x.actionOf(0, 1, 0L, 0L);
+        x.setDefault(0, 0);
+        x.setFrequency(1, 0);
+        Due.outOfBounds("remove of no rule", () -> x.remove(0, 1));
+        Due.illegalArgument("setFrequency too great", () -> x.setFrequency(1, 1001));
+        x.compile(0);
+        x.compile(1);
+        Due.yes("isCompiled after all that is no change", x.isCompiled());
+        Due.same("test after all that is no change", x.test(0, 1), 1);
     }
 
     private static void settingWhatIsSetIsNoChange() {
@@ -128,6 +235,24 @@ public final class CompilingTest {
         Due.same("4 at the end", four.test(0, 7), 4);
     }
 
+    private static void treesOfWeightBelow() {
+        SyscallFilter x = withNumbers(1, 2, 3, 4, 5);
+        x.compile(1000);
+        Due.same("of 2, 3 and 4 the lowest first", x.test(0, 1), 2);
+        x.setFrequency(3, 9);
+        x.compile(1000);
+        int[] numbers = {3, 1, 4, -1, -1, 2, 5};
+        for (int path = 1; path <= 7; path++) {
+            Due.same("the lowest first below 3, " + path, x.test(0, path), numbers[path - 1]);
+        }
+        Due.same("cost of 10, twice 1 and twice 1", x.cost(0), 10 + 2 * 2 + 2 * 3);
+        SyscallFilter ten = withNumbers(0, 3, 6, 9, 12, 15, 18, 21, 24, 31);
+        ten.compile(1000);
+        Due.same("cost of ten even numbers", ten.cost(0), 1 + 2 * 2 + 4 * 3 + 3 * 4);
+        Due.same("of ten even numbers the lowest that can be first", ten.test(0, 1), 9);
+        Due.same("worst of ten even numbers", ten.worst(0), 4);
+    }
+
     private static void pathsOfTests() {
         SyscallFilter x = withNumbers(0, 1, 2, 3, 4, 5, 6, 7, 8, 9);
         for (int number = 0; number < 10; number++) {
@@ -150,6 +275,34 @@ public final class CompilingTest {
         Due.same("then the lesser 1", mixed.test(0, 2), 1);
         Due.same("lesser and then greater", mixed.test(0, 6), 2);
         Due.same("greater and then lesser", mixed.test(0, 5), -1);
+    }
+
+    private static void pathsOfGreaterNumbers() {
+        SyscallFilter x = withNumbers(22, 23, 24, 25, 26, 27, 28, 29, 30, 31);
+        for (int number = 22; number < 32; number++) {
+            x.setFrequency(number, number == 22 ? 1000 : (1 << 31 - number) - 1);
+        }
+        x.compile(1000);
+        for (int depth = 0; depth < 10; depth++) {
+            int path = (2 << depth) - 1;
+            Due.same("greater and greater, " + path, x.test(0, path), 22 + depth);
+            Due.same("lesser at the end of it, " + path, x.test(0, (1 << depth + 1) + (1 << depth) - 1), -1);
+        }
+        Due.same("below the last", x.test(0, 2047), -1);
+        Due.same("greater to the end of an int", x.test(0, Integer.MAX_VALUE), -1);
+        Due.same("path of the last number", x.path(31, 0L, 0L), 10);
+        Due.same("path of a lesser number than all", x.path(0, 0L, 0L), 1);
+    }
+
+    private static void testsOfAnEmptyTree() {
+        SyscallFilter x = withNumbers(7);
+        x.compile(1000);
+        for (int path : new int[] {1, 2, 3, 1 << 30, Integer.MAX_VALUE}) {
+            Due.same("test of an empty tree, " + path, x.test(3, path), -1);
+            Due.same("test of one number, " + path, x.test(0, path), path == 1 ? 7 : -1);
+        }
+        Due.same("cost of an empty tree", x.cost(3), 0);
+        Due.same("worst of an empty tree", x.worst(3), 0);
     }
 
     private static void rulesOutOfReachHaveNoTest() {
@@ -179,6 +332,18 @@ public final class CompilingTest {
         Due.same("cost by weights 1, 5, 10", x.cost(0), 10 + 2 * 5 + 3);
     }
 
+    private static void costsOfTheGreatestWeights() {
+        SyscallFilter x = withNumbers(0, 1, 2, 3, 4, 5, 6, 7, 30, 31);
+        for (int number = 0; number < 32; number++) {
+            x.setFrequency(number, 1000);
+        }
+        x.compile(1000);
+        Due.same("cost of ten numbers of weight 1001", x.cost(0), 1001 * 29);
+        x.setFrequency(31, 0);
+        x.compile(1000);
+        Due.same("cost with one of weight 1", x.cost(0), 1001 * 25 + 4);
+    }
+
     private static void worstOfHalves() {
         SyscallFilter x = new SyscallFilter();
         x.add(0, 1, 0, 1L, 1L, 1);
@@ -198,6 +363,29 @@ public final class CompilingTest {
         Due.same("the sum over all filters", x.compile(1000), 8);
         Due.same("worst of another filter", x.worst(3), 3);
         Due.same("worst of an empty filter", x.worst(1), 0);
+    }
+
+    private static void worstAtTheEdgeOfTheHalves() {
+        long[] masks = {1L, 1L << 31, 1L << 32, 1L << 63, 3L << 31, 0xFFFFFFFFL, ~0xFFFFFFFFL, -1L, 0L};
+        int[] tests = {1, 1, 1, 1, 2, 1, 1, 2, 0};
+        for (int i = 0; i < masks.length; i++) {
+            SyscallFilter x = new SyscallFilter();
+            x.add(2, 0, 1, masks[i], 0L, 1);
+            Due.same("compile with the mask " + masks[i], x.compile(1000), 1 + tests[i]);
+            Due.same("worst with the mask " + masks[i], x.worst(2), 1 + tests[i]);
+        }
+    }
+
+    private static void worstIsNotOfTheDeepestNumber() {
+        SyscallFilter x = withNumbers(1, 3);
+        x.add(0, 2, 0, -1L, 5L, 1);
+        x.add(0, 2, 1, -1L, 5L, 1);
+        x.add(0, 2, 1, 0L, 0L, 1);
+        x.add(0, 2, 1, -1L, 6L, 1);
+        Due.same("the number tested first has the longest rules", x.compile(1000), 5);
+        Due.same("it is tested first", x.test(0, 1), 2);
+        Due.same("a call that goes so far", x.path(2, 0x100000005L, 0x100000005L), 5);
+        Due.same("a call that stops before", x.path(2, 0L, 0L), 3);
     }
 
     private static void worstEndsAtMaskZero() {

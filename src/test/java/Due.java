@@ -12,6 +12,13 @@ final class Due {
         }
     }
 
+    static void text(String call, String got, String want) {
+        if (!got.equals(want)) {
+            wrong++;
+            System.out.println(call + " were " + got + ", due is " + want);
+        }
+    }
+
     static void yes(String call, boolean got) {
         same(call, got ? 1 : 0, 1);
     }

@@ -5,12 +5,19 @@ public final class JudgingTest {
 
     public static void main(String[] args) {
         firstMatchDecides();
+        actionsAtTheEnds();
         bothArguments();
+        matchingEveryBit();
+        leastAndGreatestNumber();
         strictestOfAllFilters();
         judgingByRulesNeedsNoCompiling();
         judgingSeesChangesWhenCompiled();
+        judgingAfterCompilingAboveTheBound();
+        judgingWithoutRules();
+        judgingPastRulesOutOfReach();
         pathsOfNumbers();
         pathsOfHalves();
+        pathsAtTheEdgeOfTheHalves();
         pathsEndAtAMatch();
         pathsOfAllFilters();
         judgingRefuses();
@@ -40,6 +47,48 @@ public final class JudgingTest {
         Due.same("actionOf the second rule", x.actionOf(0, 5, 2L, 0L), 6);
         Due.same("actionOf the default", x.actionOf(0, 5, 4L, 0L), 3);
         Due.same("actionOf another number", x.actionOf(0, 6, 1L, 0L), 3);
+    }
+
+    /** Action 0 of a rule is an action as any other, and less strict than any default but 0. */
+    private static void actionsAtTheEnds() {
+        SyscallFilter x = new SyscallFilter();
+        x.setDefault(0, 6);
+        x.add(0, 5, 0, 1L, 1L, 0);
+        x.compile(1000);
+        judged("a rule less strict than its default", x, 5, 1L, 0L, 0);
+        judged("the strictest default", x, 5, 0L, 0L, 6);
+        x.setDefault(1, 5);
+        x.compile(1000);
+        judged("the default of another filter", x, 5, 1L, 0L, 5);
+        judged("the stricter of two defaults", x, 5, 0L, 0L, 6);
+    }
+
+    private static void matchingEveryBit() {
+        for (int bit = 0; bit < 64; bit++) {
+            long one = 1L << bit;
+            SyscallFilter x = new SyscallFilter();
+            x.add(0, 0, 0, one, one, 3);
+            x.add(0, 0, 1, one, 0L, 2);
+            x.compile(1000);
+            judged("bit " + bit + " alone", x, 0, one, one, 3);
+            judged("all bits but " + bit, x, 0, ~one, ~one, 2);
+            judged("no bit, for " + bit, x, 0, 0L, 0L, 2);
+            judged("all bits, for " + bit, x, 0, -1L, -1L, 3);
+            judged("bit " + bit + " of the second argument", x, 0, ~one, one, 0);
+        }
+    }
+
+    private static void leastAndGreatestNumber() {
+        SyscallFilter x = new SyscallFilter();
+        x.add(0, 0, 0, -1L, Long.MIN_VALUE, 4);
+        x.add(0, 31, 1, -1L, Long.MAX_VALUE, 5);
+        x.compile(1000);
+        judged("the least number", x, 0, Long.MIN_VALUE, Long.MAX_VALUE, 4);
+        judged("the greatest number", x, 31, Long.MIN_VALUE, Long.MAX_VALUE, 5);
+        judged("a number between", x, 16, Long.MIN_VALUE, Long.MAX_VALUE, 0);
+        Due.same("path of the least number", x.path(0, Long.MIN_VALUE, 0L), 3);
+        Due.same("path of the greatest number", x.path(31, 0L, Long.MAX_VALUE), 4);
+        Due.same("path of a number between", x.path(16, 0L, 0L), 2);
     }
 
     private static void bothArguments() {
@@ -101,6 +150,53 @@ public final class JudgingTest {
         Due.same("path without rules", x.path(9, 1L, 0L), 0);
     }
 
+    private static void judgingAfterCompilingAboveTheBound() {
+        SyscallFilter x = new SyscallFilter();
+        x.add(0, 9, 0, 1L, 1L, 3);
+        x.compile(1000);
+        Due.same("compile above the bound", x.compile(1), -1);
+        judged("as compiled before", x, 9, 1L, 0L, 3);
+        Due.same("path as compiled before", x.path(9, 1L, 0L), 2);
+        x.add(0, 9, 0, 2L, 2L, 4);
+        Due.same("compile above the bound after a change", x.compile(2), -1);
+        Due.illegalState("judge above the bound", () -> x.judge(9, 2L, 0L));
+        Due.illegalState("path above the bound", () -> x.path(9, 2L, 0L));
+        Due.same("judgeByRules above the bound", x.judgeByRules(9, 2L, 0L), 4);
+        Due.same("actionOf above the bound", x.actionOf(0, 9, 2L, 0L), 4);
+    }
+
+    private static void judgingWithoutRules() {
+        SyscallFilter x = new SyscallFilter();
+        for (int filter = 0; filter < 4; filter++) {
+            x.setDefault(filter, filter + 1);
+            x.compile(0);
+            judged("defaults up to filter " + filter, x, 31, -1L, -1L, filter + 1);
+            Due.same("actionOf filter " + filter, x.actionOf(filter, 0, -1L, -1L), filter + 1);
+        }
+        x.setDefault(0, 6);
+        x.compile(0);
+        judged("the strictest default first", x, 0, 0L, 0L, 6);
+        Due.same("path without rules", x.path(0, 0L, 0L), 0);
+    }
+
+    private static void judgingPastRulesOutOfReach() {
+        SyscallFilter x = new SyscallFilter();
+        x.add(0, 1, 0, 0L, 1L, 6);
+        x.add(0, 1, 0, 1L, 3L, 6);
+        x.add(0, 2, 0, 0L, 1L, 6);
+        x.add(0, 1, 0, 4L, 4L, 2);
+        x.add(0, 1, 0, 5L, 5L, 6);
+        x.add(0, 1, 1, 0L, 0L, 3);
+        x.add(0, 1, 0, 8L, 8L, 6);
+        x.compile(1000);
+        judged("the first rule in reach", x, 1, 0xFL, 0L, 2);
+        judged("the rule for all calls", x, 1, 9L, 1L, 3);
+        judged("a number out of reach", x, 2, 1L, 1L, 0);
+        Due.same("path to the first rule in reach", x.path(1, 0xFL, 0L), 2);
+        Due.same("path to the rule for all calls", x.path(1, 9L, 1L), 2);
+        Due.same("path of a number out of reach", x.path(2, 1L, 1L), 1);
+    }
+
     private static void pathsOfNumbers() {
         SyscallFilter x = new SyscallFilter();
         Due.same("compile of nothing", x.compile(0), 0);
@@ -134,6 +230,27 @@ public final class JudgingTest {
         judged("both halves", x, 1, 0x100000001L, 0L, 1);
         judged("a failing upper half", x, 1, 1L, 0L, 0);
         judged("an upper half", x, 3, 0L, Long.MIN_VALUE, 1);
+    }
+
+    private static void pathsAtTheEdgeOfTheHalves() {
+        long both = 3L << 31;
+        SyscallFilter x = new SyscallFilter();
+        x.add(0, 1, 0, both, both, 1);
+        x.add(1, 2, 0, 1L << 32, 1L << 32, 1);
+        x.add(2, 3, 0, 1L << 31, 0L, 1);
+        x.compile(1000);
+        int rest = 2;
+        Due.same("bits 31 and 32 match", x.path(1, both, 0L), rest + 3);
+        Due.same("bit 31 alone matches", x.path(1, 1L << 31, 0L), rest + 3);
+        Due.same("bit 32 alone matches", x.path(1, 1L << 32, 0L), rest + 2);
+        Due.same("no bit matches", x.path(1, 0L, 0L), rest + 2);
+        Due.same("the lowest bit of the upper half", x.path(2, 1L << 32, 0L), rest + 2);
+        Due.same("the lowest bit of the upper half fails", x.path(2, ~(1L << 32), 0L), rest + 2);
+        Due.same("the highest bit of the lower half", x.path(3, ~(1L << 31), 0L), rest + 2);
+        Due.same("the highest bit of the lower half fails", x.path(3, 1L << 31, 0L), rest + 2);
+        judged("bits 31 and 32", x, 1, both, 0L, 1);
+        judged("bit 31", x, 1, 1L << 31, 0L, 0);
+        judged("bit 32", x, 1, 1L << 32, 0L, 0);
     }
 
     private static void pathsEndAtAMatch() {

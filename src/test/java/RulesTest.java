@@ -9,14 +9,22 @@ public final class RulesTest {
         addNumbersRules();
         addRefusesWrongArguments();
         addRefusesAnEleventhRule();
+        addGoesBehindAllOthers();
+        eachFilterTakesTenRules();
         removeMovesRulesUp();
+        removeFromAFullFilter();
         removeRefuses();
         defaults();
         frequencies();
+        leastAndGreatestSettings();
         ruleCounts();
         hiddenByItself();
         hiddenByAnEarlierRule();
         hiddenByARuleForAllCalls();
+        hiddenByTheFirstOfSeveral();
+        hidingBitsOfBothHalves();
+        hidingIsToldByTwoRulesAlone();
+        hidersInAFullFilter();
         hidersAfterRemoval();
         hiderRefuses();
         Due.end();
@@ -34,6 +42,13 @@ public final class RulesTest {
         }
         Due.no("isCompiled of a new object", x.isCompiled());
         Due.illegalState("judge of a new object", () -> x.judge(0, 0L, 0L));
+        Due.illegalState("path of a new object", () -> x.path(0, 0L, 0L));
+        Due.illegalState("test of a new object", () -> x.test(0, 1));
+        Due.illegalState("cost of a new object", () -> x.cost(0));
+        Due.illegalState("worst of a new object", () -> x.worst(0));
+        Due.outOfBounds("hider of a new object", () -> x.hider(0, 0));
+        Due.outOfBounds("remove of a new object", () -> x.remove(0, 0));
+        Due.same("compile of a new object", x.compile(0), 0);
     }
 
     private static void addNumbersRules() {
@@ -79,6 +94,29 @@ public final class RulesTest {
         Due.same("add behind", x.add(1, 0, 0, 0L, 0L, 1), 9);
     }
 
+    private static void addGoesBehindAllOthers() {
+        SyscallFilter x = new SyscallFilter();
+        x.add(0, 7, 0, 1L, 1L, 1);
+        x.add(0, 7, 0, 2L, 2L, 2);
+        x.remove(0, 0);
+        Due.same("add after a removal", x.add(0, 7, 0, 1L, 1L, 3), 1);
+        Due.same("the rule that was first is behind", x.actionOf(0, 7, 3L, 0L), 2);
+        Due.same("and matches what that one does not", x.actionOf(0, 7, 1L, 0L), 3);
+    }
+
+    private static void eachFilterTakesTenRules() {
+        SyscallFilter x = new SyscallFilter();
+        for (int filter = 0; filter < 4; filter++) {
+            for (int rule = 0; rule < 10; rule++) {
+                Due.same("add to filter " + filter, x.add(filter, rule, 0, -1L, 9L, filter), rule);
+            }
+            int full = filter;
+            Due.illegalState("an eleventh of filter " + full, () -> x.add(full, 31, 0, -1L, 9L, 6));
+            Due.same("actionOf the tenth", x.actionOf(filter, 9, 9L, 0L), filter);
+            Due.same("actionOf the refused one", x.actionOf(filter, 31, 9L, 0L), 0);
+        }
+    }
+
     private static void removeMovesRulesUp() {
         SyscallFilter x = new SyscallFilter();
         x.add(2, 7, 0, 1L, 1L, 1);
@@ -93,6 +131,26 @@ public final class RulesTest {
         Due.same("actionOf what moved up", x.actionOf(2, 7, 6L, 0L), 0);
         Due.same("remove the last one", x.remove(2, 0), 0);
         Due.same("rules of another filter", x.rules(1), 1);
+    }
+
+    private static void removeFromAFullFilter() {
+        SyscallFilter x = new SyscallFilter();
+        for (int rule = 0; rule < 10; rule++) {
+            x.add(2, 7, 0, 0xFFL, rule, rule % 6 + 1);
+        }
+        Due.outOfBounds("remove rule 10 of 10", () -> x.remove(2, 10));
+        Due.same("remove rule 9 of 10", x.remove(2, 9), 9);
+        Due.outOfBounds("remove rule 9 of 9", () -> x.remove(2, 9));
+        Due.same("actionOf rule 9 that is gone", x.actionOf(2, 7, 9L, 0L), 0);
+        Due.same("remove rule 0 of 9", x.remove(2, 0), 8);
+        Due.same("actionOf rule 0 that is gone", x.actionOf(2, 7, 0L, 0L), 0);
+        for (int value = 1; value < 9; value++) {
+            Due.same("actionOf what is left", x.actionOf(2, 7, value, 0L), value % 6 + 1);
+        }
+        for (int left = 7; left >= 0; left--) {
+            Due.same("remove rule 0 again", x.remove(2, 0), left);
+        }
+        Due.outOfBounds("remove rule 0 of none", () -> x.remove(2, 0));
     }
 
     private static void removeRefuses() {
@@ -141,6 +199,22 @@ public final class RulesTest {
         }
         Due.yes("isCompiled after refused frequencies", x.isCompiled());
         Due.same("setFrequency after refused ones", x.setFrequency(31, 1), 1);
+    }
+
+    private static void leastAndGreatestSettings() {
+        SyscallFilter x = new SyscallFilter();
+        for (int filter = 0; filter < 4; filter++) {
+            Due.same("setDefault to the greatest", x.setDefault(filter, 6), 0);
+            Due.same("setDefault to what is set", x.setDefault(filter, 6), 6);
+            Due.same("setDefault to the least", x.setDefault(filter, 0), 6);
+            Due.same("setDefault to the least again", x.setDefault(filter, 0), 0);
+        }
+        for (int number = 0; number < 32; number++) {
+            Due.same("setFrequency to the greatest", x.setFrequency(number, 1000), 0);
+            Due.same("setFrequency to what is set", x.setFrequency(number, 1000), 1000);
+            Due.same("setFrequency to the least", x.setFrequency(number, 0), 1000);
+            Due.same("setFrequency to the least again", x.setFrequency(number, 0), 0);
+        }
     }
 
     private static void ruleCounts() {
@@ -202,6 +276,62 @@ public final class RulesTest {
         Due.same("of the same argument", x.hider(0, 2), 0);
         Due.same("both for all calls", x.hider(0, 3), 0);
         Due.same("of another number", x.hider(0, 4), -1);
+    }
+
+    private static void hiddenByTheFirstOfSeveral() {
+        SyscallFilter x = new SyscallFilter();
+        x.add(0, 4, 0, 3L, 4L, 1);
+        x.add(0, 4, 0, 4L, 4L, 1);
+        x.add(0, 4, 0, 6L, 6L, 1);
+        x.add(0, 4, 1, 0L, 0L, 1);
+        x.add(0, 4, 0, 7L, 7L, 1);
+        x.add(0, 4, 1, 7L, 7L, 1);
+        int[] hiders = {0, -1, 1, -1, 1, 3};
+        for (int rule = 0; rule < hiders.length; rule++) {
+            Due.same("the first hider of rule " + rule, x.hider(0, rule), hiders[rule]);
+        }
+    }
+
+    private static void hidingBitsOfBothHalves() {
+        for (int bit : new int[] {0, 31, 32, 63}) {
+            long one = 1L << bit;
+            SyscallFilter x = new SyscallFilter();
+            x.add(0, 0, 1, ~one, one, 0);
+            x.add(0, 0, 1, one, one, 0);
+            x.add(0, 0, 1, ~one, 0L, 0);
+            x.add(0, 0, 1, -1L, one, 0);
+            x.add(0, 0, 1, one, one, 0);
+            x.add(0, 0, 1, one, 0L, 0);
+            x.add(0, 0, 1, -1L, ~one, 0);
+            x.add(0, 0, 1, ~one, 1L << 5, 0);
+            int[] hiders = {0, -1, -1, 1, 1, -1, 5, -1};
+            for (int rule = 0; rule < hiders.length; rule++) {
+                Due.same("bit " + bit + ", hider of rule " + rule, x.hider(0, rule), hiders[rule]);
+            }
+        }
+    }
+
+    private static void hidingIsToldByTwoRulesAlone() {
+        SyscallFilter x = new SyscallFilter();
+        x.add(0, 4, 0, 1L, 0L, 1);
+        x.add(0, 4, 0, 1L, 1L, 2);
+        x.add(0, 4, 0, 2L, 2L, 3);
+        x.add(0, 4, 0, 0L, 0L, 4);
+        Due.same("no call is left for it, but by two rules", x.hider(0, 2), -1);
+        Due.same("a rule for all calls behind all calls", x.hider(0, 3), -1);
+        Due.same("a later rule hides none", x.hider(0, 0), -1);
+    }
+
+    private static void hidersInAFullFilter() {
+        SyscallFilter x = new SyscallFilter();
+        for (int rule = 0; rule < 10; rule++) {
+            x.add(3, rule == 9 ? 0 : rule, 0, 1L, 1L, 0);
+        }
+        Due.same("hider of rule 8", x.hider(3, 8), -1);
+        Due.same("hider of rule 9", x.hider(3, 9), 0);
+        Due.outOfBounds("hider of rule 10 of 10", () -> x.hider(3, 10));
+        x.remove(3, 9);
+        Due.outOfBounds("hider of rule 9 of 9", () -> x.hider(3, 9));
     }
 
     private static void hidersAfterRemoval() {
